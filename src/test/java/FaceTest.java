@@ -52,6 +52,9 @@ public final class FaceTest {
         for (Class<?> inside : face.getDeclaredClasses()) {
             Check.due(inside + " is static", Modifier.isStatic(inside.getModifiers()), true);
             Check.due(inside + " isn't public", Modifier.isPublic(inside.getModifiers()), false);
+            for (Method m : inside.getDeclaredMethods()) {
+                Check.due(inside + " has " + m.getName() + ", named as a public one", publicNames.contains(m.getName()), false);
+            }
         }
         Check.finish();
     }

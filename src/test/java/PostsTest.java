@@ -98,6 +98,8 @@ public final class PostsTest {
         x.seat(1, 90);
         Check.granted(x, "bestPlace(9)", x.bestPlace(9), 29);
         Check.granted(x, "bestPlace(5) at the end", x.bestPlace(5), 94);
+        ShoreGuards y = Check.beachOf("beach limit 10 heat 0 slips 0;person a reader at 99 thought 1 by 1");
+        Check.granted(y, "bestPlace(10), the last place", y.bestPlace(10), 99);
     }
 
     private static void limitFor() {

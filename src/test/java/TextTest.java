@@ -78,6 +78,12 @@ public final class TextTest {
         Check.granted(x, "longest name", Check.tell(x, HEAD + ";person abcdefgh reader at 5 thought 5 by 5;waved abcdefgh"), 1);
         Check.granted(x, "names alike at first", Check.tell(x, HEAD + ";person a reader at 5 thought 5 by 5;person ab reader at 7 thought 5 by 5;knows ab a"), 2);
         Check.due("person(1, 8)", x.person(1, 8), 1);
+        // What stands behind the n bytes is cut off amid digits and letters too.
+        Check.feedText(x, ONE + "0");
+        Check.granted(x, "cut amid digits", x.beach(ONE.length()), 1);
+        Check.due("person(0, 3)", x.person(0, 3), 5);
+        Check.feedText(x, TWO + ";waved ab");
+        Check.granted(x, "cut amid letters", x.beach(TWO.length() + 8), 2);
         Check.granted(x, "manned ahead of a person", Check.tell(x, HEAD + ";post q at 5 off 5;manned q;person a reader at 5 thought 5 by 5"), 1);
     }
 
@@ -123,6 +129,8 @@ public final class TextTest {
         // No WORD has nine letters and no WHOLE four digits.
         fault(HEAD + ";person abcdefghi reader at 5", 1, 36);
         fault("beach limit 0005", 1, 12);
+        fault("beach limit @", 1, 12);
+        fault("beach limit 5 heat =2", 1, 19);
         fault(HEAD + ";post q off", 1, 36);
         fault(HEAD + ";post q at 5 at 5", 1, 41);
         for (String word : new String[] {"beach", "person", "post", "manned", "knows", "waved", "still"}) {
@@ -258,6 +266,15 @@ public final class TextTest {
         Check.due("odds(1, true)", x.odds(1, true), 2);
         Check.refused(x, "person(2, 0)", x.person(2, 0), -1, 1);
         Check.refused(x, "post(1, 0)", x.post(1, 0), -1, 1);
+        // Of the BEACH before that one nothing is left either.
+        Check.granted(x, "the BEACH behind it", Check.tell(x, TWO + ";post q at 5 off 5;post r at 6 off 6;waved a"), 2);
+        int[] sizes = {5, 2, 5, 2, 2, 0, 0, 1, 0, 0, 0, 0};
+        for (int what = 0; what <= 11; what++) {
+            Check.due("size(" + what + ") of the third BEACH", x.size(what), sizes[what]);
+        }
+        Check.due("person(0, 8) of the third BEACH", x.person(0, 8), 0);
+        Check.due("person(1, 8) of the third BEACH", x.person(1, 8), 0);
+        Check.due("post(0, 2) of the third BEACH", x.post(0, 2), 0);
     }
 
     private static void reporting() {

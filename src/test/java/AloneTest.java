@@ -9,6 +9,8 @@ public final class AloneTest {
         edges();
         fromNow();
         best();
+        ownSearch();
+        allSix();
         Check.finish();
     }
 
@@ -75,6 +77,38 @@ public final class AloneTest {
         row(x, "at 42", 0, 50, 1);
         Check.due("lift(1)", x.lift(1), 0);
         row(x, "b LIFTED", 0, 42);
+    }
+
+    /** Each call is about its own post, whatever was asked before. */
+    private static void ownSearch() {
+        String text = "beach limit 20 heat 0 slips 0;person a reader at 10 thought 0 by 1;person b reader at 40 thought 9 by 1;"
+            + "person c reader at 42 thought 30 by 1;post s at 10 off 4;post t at 41 off 2";
+        ShoreGuards x = Check.beachOf(text);
+        Check.granted(x, "aloneAt(1, 1) as the first call", x.aloneAt(1, 1), 2);
+        Check.granted(x, "aloneAt(0, 0) behind aloneAt(1, 1)", x.aloneAt(0, 0), 0);
+        Check.granted(x, "aloneFree(1) behind aloneAt(0, 0)", x.aloneFree(1), 36);
+        Check.granted(x, "aloneFree(0) behind aloneFree(1)", x.aloneFree(0), 8);
+        Check.granted(x, "bestAlone()", x.bestAlone(), 1);
+        Check.granted(x, "aloneAt(0, 0) behind bestAlone()", x.aloneAt(0, 0), 0);
+        Check.refused(x, "aloneAt(0, 1)", x.aloneAt(0, 1), -1, 1);
+        // ALONE is asked anew behind an act.
+        Check.due("minute(30)", x.minute(30), 4);
+        Check.granted(x, "aloneAt(1, 0) at 30", x.aloneAt(1, 0), 2);
+        Check.granted(x, "aloneFree(0) at 30", x.aloneFree(0), 30);
+        ShoreGuards y = Check.beachOf(text);
+        Check.granted(y, "aloneFree(1) as the first call", y.aloneFree(1), 36);
+    }
+
+    private static void allSix() {
+        StringBuilder text = new StringBuilder("beach limit 60 heat 0 slips 0;post s at 10 off 1");
+        for (char name = 'a'; name <= 'f'; name++) {
+            text.append(";person ").append(name).append(" reader at 10 thought 0 by 1");
+        }
+        ShoreGuards x = Check.beachOf(text.toString());
+        row(x, "six", 0, 12, 0, 1, 2, 3, 4, 5);
+        x.seat(0, 69);
+        // To a it is 60 there: only as the first one, and then nobody else is in time.
+        row(x, "five", 0, 10, 1, 2, 3, 4, 5);
     }
 
     private static void best() {

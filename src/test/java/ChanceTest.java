@@ -97,6 +97,25 @@ public final class ChanceTest {
         mean(x, 3, 50);
     }
 
+    /** In how many of n DRAWS of one person each it is below by. */
+    private static int below(long seed, int n, int by) {
+        int many = 0;
+        for (int i = 0; i < n; i++) {
+            seed = (75 * seed + 74) % 65537;
+            many += seed % 100 < by ? 1 : 0;
+        }
+        return many;
+    }
+
+    /** By 0 never, by 100 each time. */
+    private static void by(int told, int times) {
+        ShoreGuards x = Check.beachOf("beach limit 5 heat 0 slips 0;person a reader at 1 thought 1 by " + told);
+        for (int seed : new int[] {0, 1, 4711, 65535, 65536}) {
+            Check.granted(x, "afternoons by " + told, x.afternoons(0, seed, 90), times);
+            Check.granted(x, "worst by " + told, x.worst(seed, 90), times / 90);
+        }
+    }
+
     private static void draws() {
         // SEED 0: 74, 24, 52, 90 of the first afternoon, 41, 9, 31 and so on of the next.
         ShoreGuards x = Check.beachOf(Check.USUAL);
@@ -124,5 +143,28 @@ public final class ChanceTest {
         ShoreGuards v = Check.beachOf("beach limit 5 heat 0 slips 0;person a child at 1 thought 1 by 100;person b talker at 1 thought 1 by 75");
         Check.granted(v, "afternoons of the child", v.afternoons(0, 0, 9), 0);
         Check.granted(v, "afternoons of the talker", v.afternoons(1, 0, 1), 1);
+        Check.granted(v, "worst, the child never SINKS", v.worst(0, 1), 1);
+        ShoreGuards u = Check.beachOf("beach limit 5 heat 0 slips 0;person a child at 1 thought 1 by 100;person b talker at 1 thought 1 by 74");
+        Check.granted(u, "afternoons by 74, at it", u.afternoons(1, 0, 1), 0);
+        Check.granted(u, "worst by 74, at it", u.worst(0, 1), 0);
+        // Two AFTERNOONS: 74, then 24, of the SEED as it has become.
+        Check.granted(u, "afternoons, the second", u.afternoons(1, 0, 2), 1);
+        // Each call begins with its own SEED.
+        Check.granted(u, "worst(65536, 1) behind it", u.worst(65536, 1), 1);
+        Check.granted(u, "worst(0, 1) behind it", u.worst(0, 1), 0);
+        Check.granted(u, "afternoons(1, 65536, 1)", u.afternoons(1, 65536, 1), 1);
+        Check.granted(u, "worst(0, 1) behind afternoons", u.worst(0, 1), 0);
+        Check.granted(u, "afternoons(1, 0, 1)", u.afternoons(1, 0, 1), 0);
+        // The least and the greatest of both at once.
+        for (int seed : new int[] {0, 65536}) {
+            Check.granted(u, "afternoons(1, " + seed + ", 0)", u.afternoons(1, seed, 0), 0);
+            Check.granted(u, "worst(" + seed + ", 0)", u.worst(seed, 0), 0);
+        }
+        Check.granted(u, "afternoons(1, 65536, 90)", u.afternoons(1, 65536, 90), 90);
+        Check.granted(u, "afternoons(1, 0, 90)", u.afternoons(1, 0, 90), below(0, 90, 74));
+        // SEED 65535 becomes 75 times that and 74, which is 65537 times 74 and 65461.
+        Check.granted(u, "afternoons(1, 65535, 1)", u.afternoons(1, 65535, 1), 1);
+        by(0, 0);
+        by(100, 90);
     }
 }

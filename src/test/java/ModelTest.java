@@ -4,38 +4,51 @@ import java.util.Random;
 
 /** Random runs, each answer compared with the model's. */
 public final class ModelTest {
+    private static final int STEPS = 9;
+
     private ModelTest() {
     }
 
     public static void main(String[] args) {
         int runs = args.length > 0 ? Integer.parseInt(args[0]) : 400;
         for (int seed = 1; seed <= runs; seed++) {
-            beachRun(new Random(seed), seed);
+            for (int step = 0; step < STEPS; step++) {
+                beachRun(seed, step, true);
+                beachRun(seed, step, false);
+            }
         }
         for (int seed = 1; seed <= 30 * runs; seed++) {
             brokenText(new Random(seed), seed);
         }
+        everyCut();
+        everyToken();
         Check.finish();
     }
 
-    private static void beachRun(Random random, int seed) {
+    /** A run up to one step, where one half of all is compared: an object has but 512 calls. */
+    private static void beachRun(int seed, int last, boolean half) {
+        Random random = new Random(seed);
+        String at = "run " + seed + "," + last + " ";
         ShoreGuards x = new ShoreGuards();
+        Model m = null;
         int beaches = 1 + random.nextInt(2);
         for (int i = 0; i < beaches; i++) {
-            Model m = Model.random(random);
+            m = Model.random(random);
             String text = m.text(random);
-            String at = "run " + seed + " ";
             Check.granted(x, at + "beach of " + text, Check.tell(x, text), m.people.size());
-            for (int step = 0; step < 8; step++) {
-                compare(x, m, at, random);
-                for (int k = random.nextInt(5); k >= 0; k--) {
+            for (int step = 0; step < (i + 1 < beaches ? STEPS : last); step++) {
+                for (int k = step == STEPS - 2 ? 20 : random.nextInt(5); k >= 0; k--) {
                     act(x, m, at, random);
                 }
             }
-            for (int k = 0; k < 20; k++) {
-                act(x, m, at, random);
-            }
-            compare(x, m, at, random);
+        }
+        if (half) {
+            comparePeople(x, m, at);
+            compareDraws(x, m, at, random);
+            compareSizes(x, m, at);
+        } else {
+            comparePosts(x, m, at, random);
+            compareShore(x, m, at, random);
         }
     }
 
@@ -118,9 +131,7 @@ public final class ModelTest {
         Check.granted(x, call + " lower", lower, due[1].longValueExact());
     }
 
-    private static void compare(ShoreGuards x, Model m, String at, Random random) {
-        comparePeople(x, m, at);
-        comparePosts(x, m, at, random);
+    private static void compareShore(ShoreGuards x, Model m, String at, Random random) {
         int minute = random.nextInt(201);
         Check.granted(x, at + "sinkers", x.sinkers(), m.sinkers());
         Check.granted(x, at + "first", x.first(), m.first());
@@ -140,8 +151,6 @@ public final class ModelTest {
         for (int many = 0; many <= 6; many++) {
             share(x, at + "sinking", x.sinking(many, false), x.sinking(many, true), m.sinking(many));
         }
-        compareDraws(x, m, at, random);
-        compareSizes(x, m, at);
     }
 
     private static void comparePeople(ShoreGuards x, Model m, String at) {
@@ -237,6 +246,9 @@ public final class ModelTest {
         Check.due(at + "led(" + i + ")", Check.led(x, i), Check.THREW);
     }
 
+    private static final String WHOLE_TEXT = "beach limit 12 heat 2 slips 20;person pa reader at 10 thought 9 by 50;"
+        + "post qa at 12 off 4;manned qa;person pb child at 13 thought 4 by 100;knows pa pb;waved pb;still pa;post qb at 1 off 1";
+
     private static final String[] BITS = {" ", ";", "beach", "person", "post", "manned", "knows", "waved", "still",
         "reader", "child", "pa", "pb", "qa", "qb", "zz", "0", "5", "99", "100", "101", "61", "1000", "abcdefghi",
         "at", "by", "off", "@", "A", ";knows pa pb", ";waved pa", ";still pb", ";manned qa", ";post qc at 5 off 5",
@@ -266,13 +278,45 @@ public final class ModelTest {
         if (text.length() > 880) {
             text.setLength(880);
         }
-        int[] due = FaultModel.of(text.toString());
+        compareFault("text " + seed, text.toString());
+    }
+
+    private static void compareFault(String name, String text) {
+        int[] due = FaultModel.of(text);
         ShoreGuards x = new ShoreGuards();
-        int people = Check.tell(x, text.toString());
-        String at = "text " + seed + " '" + text + "' ";
+        int people = Check.tell(x, text);
+        String at = name + " '" + text + "' ";
         Check.due(at + "fault", x.fault(), due[0]);
         Check.due(at + "where", x.where(), due[1]);
         Check.due(at + "trouble", x.trouble(), due[0] == 0 ? 0 : 4);
         Check.due(at + "people", people > 0, due[0] == 0);
+    }
+
+    /** A text with each LINE, cut behind each byte. */
+    private static void everyCut() {
+        for (int n = 0; n <= WHOLE_TEXT.length(); n++) {
+            compareFault("cut " + n, WHOLE_TEXT.substring(0, n));
+        }
+    }
+
+    /** Each TOKEN of it left out, and other ones in its place or behind it. */
+    private static void everyToken() {
+        String[] tokens = WHOLE_TEXT.replace(";", " ; ").split(" +");
+        for (int k = 0; k < tokens.length; k++) {
+            String token = tokens[k];
+            tokens[k] = "";
+            compareFault("without token " + k, join(tokens));
+            for (String other : BITS) {
+                tokens[k] = other.trim();
+                compareFault("token " + k, join(tokens));
+                tokens[k] = token + " " + other.trim();
+                compareFault("behind token " + k, join(tokens));
+            }
+            tokens[k] = token;
+        }
+    }
+
+    private static String join(String[] tokens) {
+        return String.join(" ", tokens).trim();
     }
 }

@@ -8,6 +8,8 @@ public final class NowTest {
         usual();
         kindsAndNear();
         minutes();
+        earliestAndLatest();
+        heat();
         Check.finish();
     }
 
@@ -89,6 +91,60 @@ public final class NowTest {
         Check.due("person(1, 4)", x.person(1, 4), 0);
         Check.due("post(0, 3)", x.post(0, 3), 1 + 2);
         Check.due("person(3, 1)", x.person(3, 1), 70);
+    }
+
+    /** Six talkers side by side, the last who SINK at all. */
+    private static void earliestAndLatest() {
+        StringBuilder text = new StringBuilder("beach limit 60 heat 0 slips 0");
+        for (char name = 'a'; name <= 'f'; name++) {
+            text.append(";person ").append(name).append(" talker at 50 thought 99 by 1");
+        }
+        ShoreGuards x = Check.beachOf(text.toString());
+        for (int p = 0; p < 6; p++) {
+            Check.due("person(" + p + ", 5)", x.person(p, 5), 63 - (1 << p));
+            Check.due("person(" + p + ", 4)", x.person(p, 4), 114);
+        }
+        Check.granted(x, "under(113)", x.under(113), 0);
+        Check.granted(x, "under(114)", x.under(114), 63);
+        Check.granted(x, "under(173)", x.under(173), 63);
+        Check.granted(x, "under(174)", x.under(174), 0);
+        Check.granted(x, "lost(173)", x.lost(173), 0);
+        Check.granted(x, "lost(174)", x.lost(174), 63);
+        Check.granted(x, "worstMinute()", x.worstMinute(), 114);
+        Check.granted(x, "flag(6)", x.flag(6), 114);
+        Check.granted(x, "first()", x.first(), 0);
+        // The least limit: UNDER for one minute alone, at once.
+        ShoreGuards y = Check.beachOf("beach limit 1 heat 9 slips 0;person a reader at 0 thought 0 by 1");
+        Check.granted(y, "under(0)", y.under(0), 1);
+        Check.granted(y, "under(1)", y.under(1), 0);
+        Check.granted(y, "lost(0)", y.lost(0), 0);
+        Check.granted(y, "lost(1)", y.lost(1), 1);
+        Check.granted(y, "worstMinute()", y.worstMinute(), 0);
+        Check.granted(y, "person(0, 7)", y.person(0, 7), 1);
+        Check.granted(y, "minute(1)", y.minute(1), 0);
+        Check.granted(y, "person(0, 7)", y.person(0, 7), 2);
+    }
+
+    /** The heat is taken off last, and never below 0. */
+    private static void heat() {
+        String[] kinds = {"reader", "talker", "sleeper", "child"};
+        int[] thoughts = {0, 1, 8, 9, 10, 17, 18, 19, 20, 21, 99};
+        for (int heat = 0; heat <= 9; heat += 9) {
+            for (String kind : kinds) {
+                for (int thought : thoughts) {
+                    ShoreGuards x = Check.beachOf("beach limit 5 heat " + heat + " slips 0;person a " + kind + " at 0 thought " + thought + " by 1");
+                    int due = (kind.equals("sleeper") ? thought / 2 : thought) - heat;
+                    Check.due(kind + " of " + thought + ", heat " + heat, x.person(0, 4), due < 0 ? 0 : due);
+                }
+            }
+        }
+        // A talker's company counts ahead of the heat: 0 and 3 less 9 is 0, 0 and 12 less 9 is 3.
+        ShoreGuards x = Check.beachOf("beach limit 5 heat 9 slips 0;person a talker at 5 thought 0 by 1;person b reader at 0 thought 0 by 1;"
+            + "person c reader at 10 thought 0 by 1;person d reader at 5 thought 0 by 1;person e reader at 6 thought 0 by 1;person f reader at 11 thought 0 by 1");
+        Check.due("person(0, 5)", x.person(0, 5), 2 + 4 + 8 + 16);
+        Check.due("person(0, 4)", x.person(0, 4), 3);
+        x.seat(1, 99);
+        Check.due("person(0, 4)", x.person(0, 4), 0);
     }
 
     private static void minutes() {

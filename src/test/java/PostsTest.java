@@ -62,6 +62,15 @@ public final class PostsTest {
             + "person b reader at 20 thought 2 by 1;post s at 10 off 15;post t at 20 off 15;post u at 15 off 15");
         Check.granted(z, "cover(), one of all", z.cover(), 4);
         Check.granted(z, "covers(), one of all", z.covers(), 5);
+        // Each post REACHES one alone: all five are needed; and one LIFTED needs none.
+        ShoreGuards five = Check.beachOf("beach limit 5 heat 0 slips 0;person a reader at 10 thought 0 by 1;person b reader at 20 thought 0 by 1;"
+            + "person c reader at 30 thought 0 by 1;person d reader at 40 thought 0 by 1;person e reader at 50 thought 0 by 1;"
+            + "post p at 10 off 5;post q at 20 off 5;post r at 30 off 5;post s at 40 off 5;post t at 50 off 5;manned r");
+        Check.granted(five, "cover(), all five", five.cover(), 31);
+        Check.granted(five, "covers(), all five", five.covers(), 1);
+        five.lift(2);
+        Check.granted(five, "cover(), c LIFTED", five.cover(), 27);
+        Check.granted(five, "covers(), c LIFTED", five.covers(), 2);
         ShoreGuards w = Check.beachOf("beach limit 20 heat 0 slips 0;person a child at 10 thought 1 by 1;"
             + "person b child at 12 thought 2 by 1;post s at 10 off 15;post t at 20 off 15");
         Check.granted(w, "cover(), nobody SINKS", w.cover(), 0);
@@ -75,6 +84,9 @@ public final class PostsTest {
         Check.granted(x, "bestPost() behind man(1)", x.bestPost(), 0);
         x.man(3);
         Check.granted(x, "bestPost(), none more", x.bestPost(), -2);
+        x.man(0);
+        x.man(2);
+        Check.granted(x, "bestPost(), all manned", x.bestPost(), -2);
         ShoreGuards y = Check.beachOf(FOUR);
         Check.granted(y, "bestPost(), no posts", y.bestPost(), -2);
         // More counts, not all: t REACHES two, but one of them is REACHED already.
@@ -115,6 +127,11 @@ public final class PostsTest {
         Check.granted(y, "limitFor(), nobody SINKS, none manned", y.limitFor(), -2);
         y.man(0);
         Check.granted(y, "limitFor(), nobody SINKS", y.limitFor(), 1);
+        // The least TIME there is.
+        ShoreGuards w = Check.beachOf("beach limit 60 heat 0 slips 0;person a reader at 0 thought 1 by 1;post s at 0 off 1;manned s");
+        Check.granted(w, "limitFor(), the nearest", w.limitFor(), 1);
+        Check.due("seat(0, 1)", w.seat(0, 1), 1);
+        Check.granted(w, "limitFor(), one place apart", w.limitFor(), 2);
         ShoreGuards z = Check.beachOf("beach limit 1 heat 0 slips 0;person a reader at 0 thought 1 by 1;post s at 99 off 40;manned s");
         Check.granted(z, "limitFor(), the furthest", z.limitFor(), 139);
     }

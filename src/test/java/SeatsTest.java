@@ -52,6 +52,21 @@ public final class SeatsTest {
         ShoreGuards w = Check.beachOf("beach limit 5 heat 0 slips 0;person a reader at 30 thought 0 by 1;person b child at 10 thought 0 by 1;"
             + "person c reader at 50 thought 0 by 1;person d reader at 52 thought 0 by 1;post s at 10 off 5;post t at 30 off 5;manned s;manned t");
         places(w, "b and c", 1, 30, 50, 10, 52);
+        // seatOf() without seats(), and anew behind an act.
+        ShoreGuards v = Check.beachOf("beach limit 5 heat 0 slips 0;person a child at 10 thought 1 by 1;"
+            + "person b reader at 50 thought 1 by 1;person c reader at 54 thought 1 by 1;post s at 10 off 5;manned s");
+        Check.granted(v, "seatOf(0) as the first call", v.seatOf(0), 50);
+        v.seat(0, 52);
+        Check.granted(v, "seatOf(0) behind an act", v.seatOf(0), 52);
+        Check.granted(v, "seatOf(1) behind an act", v.seatOf(1), 50);
+        // Who was LIFTED may sit anywhere, at the first one's place too.
+        ShoreGuards u = Check.beachOf("beach limit 5 heat 0 slips 0;person a reader at 10 thought 0 by 1;person b reader at 50 thought 0 by 1;"
+            + "post s at 50 off 5;manned s");
+        u.lift(1);
+        places(u, "b LIFTED", 0, 50, 10);
+        // All in one place: as they sit.
+        ShoreGuards t = Check.beachOf("beach limit 5 heat 0 slips 0;person a reader at 0 thought 0 by 1;person b reader at 0 thought 0 by 1;person c reader at 99 thought 0 by 1");
+        places(t, "no post", 3, 0, 0, 99);
     }
 
     private static void company() {

@@ -70,6 +70,25 @@ public final class SignsTest {
         odds(y, 1, 1, 3);
         Check.granted(y, "likeliest(), the first", y.likeliest(), 0);
         Check.granted(y, "suspects()", y.suspects(), 3);
+        // The first one alone.
+        ShoreGuards first = Check.beachOf("beach limit 5 heat 0 slips 20" + THREE + ";waved a;still b");
+        Check.granted(first, "suspects(), the first", first.suspects(), 1);
+        // 40, 40, 40 and 60: two with d, though the three ahead of him have lesser bits.
+        ShoreGuards two = Check.beachOf("beach limit 5 heat 0 slips 40" + THREE + ";person d reader at 4 thought 1 by 1;waved d");
+        odds(two, 0, 2, 9);
+        odds(two, 3, 1, 3);
+        Check.granted(two, "suspects(), two", two.suspects(), 9);
+        // By slips of 50 a sign tells nothing.
+        ShoreGuards even = Check.beachOf("beach limit 5 heat 0 slips 50" + THREE + ";waved a;still b");
+        for (int p = 0; p < 3; p++) {
+            odds(even, p, 1, 3);
+        }
+        // All wave, all sit still: each as likely.
+        ShoreGuards all = Check.beachOf("beach limit 5 heat 0 slips 10" + THREE + ";waved a;waved b;waved c");
+        odds(all, 2, 1, 3);
+        ShoreGuards none = Check.beachOf("beach limit 5 heat 0 slips 10" + THREE + ";still a;still b;still c");
+        odds(none, 2, 1, 3);
+        Check.granted(none, "likeliest(), none waved", none.likeliest(), 0);
         // Just half isn't more.
         ShoreGuards z = Check.beachOf("beach limit 5 heat 0 slips 0;person a reader at 1 thought 1 by 1;person b reader at 2 thought 1 by 1");
         odds(z, 1, 1, 2);
@@ -87,6 +106,13 @@ public final class SignsTest {
         among(x, 7, 0, 1);
         Check.granted(x, "likeliest()", x.likeliest(), -2);
         Check.granted(x, "suspects()", x.suspects(), -2);
+        // All sit still without slips: none of them can be sinking.
+        ShoreGuards y = Check.beachOf("beach limit 5 heat 0 slips 0" + THREE + ";still a;still b;still c");
+        odds(y, 1, 0, 1);
+        among(y, 7, 0, 1);
+        among(y, 0, 0, 1);
+        Check.granted(y, "likeliest()", y.likeliest(), -2);
+        Check.granted(y, "suspects()", y.suspects(), -2);
     }
 
     private static void largest() {

@@ -57,6 +57,9 @@ public final class SignsTest {
         x.seat(0, 70);
         x.minute(9);
         odds(x, 0, 1, 22);
+        Check.due("lift(1)", x.lift(1), 0);
+        odds(x, 1, 8, 11);
+        Check.granted(x, "likeliest(), LIFTED", x.likeliest(), 1);
     }
 
     private static void certain() {

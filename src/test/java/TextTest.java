@@ -17,6 +17,9 @@ public final class TextTest {
         bounds();
         many();
         lacks();
+        firstFromTheLeft();
+        tokens();
+        words();
         staying();
         reporting();
         Check.finish();
@@ -234,6 +237,114 @@ public final class TextTest {
         fault(HEAD + ";post q at 5 off 5", 6, HEAD.length() + 18);
         // At the end what goes on no further is the lesser number.
         fault(HEAD + ";", 1, HEAD.length() + 1);
+    }
+
+    /** The first FAULT counts, whatever stands behind it; of one place the least number. */
+    private static void firstFromTheLeft() {
+        for (String rest : new String[] {"", " @", " ;", ";foo", " 1000", ";beach", ";person a", ";waved z", " abcdefghi"}) {
+            fault("foo" + rest, 1, 0);
+            fault("beach limit 61" + rest, 4, 12);
+            fault("person" + rest, 6, 0);
+            fault(HEAD + ";beach" + rest, 3, HEAD.length() + 1);
+            fault(BOTH + ";manned z" + rest, 2, BOTH.length() + 8);
+            fault(BOTH + ";manned q;manned q" + rest, 3, BOTH.length() + 17);
+            fault(BOTH + ";knows a a" + rest, 3, BOTH.length() + 9);
+            fault(BOTH + ";knows z a" + rest, 2, BOTH.length() + 7);
+            fault(BOTH + ";post r at 100" + rest, 4, BOTH.length() + 11);
+        }
+        // A NAME that is both untold and the first one again is untold where it stands first.
+        fault(BOTH + ";knows z z", 2, BOTH.length() + 7);
+        fault(BOTH + ";knows q q", 2, BOTH.length() + 7);
+        // At the end: no TOKEN goes on, ahead of nobody being told.
+        fault(HEAD + ";post", 1, HEAD.length() + 5);
+        fault(HEAD + ";", 1, HEAD.length() + 1);
+        fault(HEAD + ";  ", 1, HEAD.length() + 3);
+        fault("beach limit 5 heat 2 slips", 1, 26);
+        // A LINE of another sort ahead of the beach, though none behind it would be told.
+        for (String word : new String[] {"person", "post", "manned", "knows", "waved", "still"}) {
+            fault(word, 6, 0);
+            fault("  " + word + " zz", 6, 2);
+        }
+        // At a WORD that may be a NAME, but no LINE's.
+        fault("reader", 1, 0);
+        fault(HEAD + ";limit", 1, HEAD.length() + 1);
+    }
+
+    /** What begins a TOKEN and what doesn't, byte by byte. */
+    private static void tokens() {
+        for (int sign = 0; sign <= 255; sign++) {
+            char c = (char) sign;
+            String text = ONE + c;
+            if (c == ' ') {
+                ShoreGuards x = new ShoreGuards();
+                Check.granted(x, "a blank at the end", Check.tell(x, text), 1);
+            } else if (c == ';') {
+                fault(text, 1, ONE.length() + 1);
+            } else if (c >= '0' && c <= '9') {
+                // The last WHOLE is longer by it.
+                ShoreGuards x = new ShoreGuards();
+                Check.granted(x, "a digit at the end", Check.tell(x, text), 1);
+                Check.due("person(0, 3)", x.person(0, 3), 50 + c - '0');
+            } else {
+                fault(text, 1, ONE.length());
+            }
+            // Amid blanks all but a blank is no more of a LINE.
+            if (c != ' ' && c != ';') {
+                fault(ONE + " " + c + " ", 1, ONE.length() + 1);
+            }
+            // In a NAME a letter alone goes on with it.
+            String named = HEAD + ";person b" + c + " reader at 5 thought 5 by 5;waved b" + c;
+            if (c >= 'a' && c <= 'z' || c == ' ') {
+                ShoreGuards x = new ShoreGuards();
+                Check.granted(x, named, Check.tell(x, named), 1);
+            } else {
+                fault(named, 1, HEAD.length() + 9);
+            }
+        }
+        String name = "abcdefgh";
+        for (int length = 1; length <= 8; length++) {
+            String text = HEAD + ";person " + name.substring(0, length) + " reader at 5 thought 5 by 5";
+            ShoreGuards x = new ShoreGuards();
+            Check.granted(x, text, Check.tell(x, text), 1);
+        }
+        fault(HEAD + ";person abcdefghi reader at 5 thought 5 by 5", 1, HEAD.length() + 8);
+        fault(HEAD + ";person abcdefghabcdefgh reader at 5 thought 5 by 5", 1, HEAD.length() + 8);
+        fault(ONE + ";waved abcdefghi", 1, ONE.length() + 7);
+        fault("beachbeach limit 5", 1, 0);
+        // Two NAMES alike in eight letters but one are two.
+        ShoreGuards x = new ShoreGuards();
+        Check.granted(x, "names unlike at the end", Check.tell(x, HEAD + ";person abcdefgh reader at 5 thought 5 by 5;"
+            + "person abcdefgi reader at 9 thought 5 by 5;person bbcdefgh reader at 5 thought 5 by 5;waved abcdefgi;knows bbcdefgh abcdefgi"), 3);
+        Check.due("person(2, 8)", x.person(2, 8), 2);
+    }
+
+    /** Each WORD that is no NAME, with any one letter another, a letter less, a letter more. */
+    private static void words() {
+        String[] texts = {BOTH + ";manned q", BOTH + ";knows a b", BOTH + ";waved a", BOTH + ";still a",
+            HEAD + ";person a reader at 5 thought 5 by 5", HEAD + ";person a talker at 5 thought 5 by 5",
+            HEAD + ";person a sleeper at 5 thought 5 by 5", HEAD + ";person a child at 5 thought 5 by 5"};
+        for (String text : texts) {
+            Check.beachOf(text);
+            int from = 0;
+            while (from < text.length()) {
+                int to = from;
+                while (to < text.length() && text.charAt(to) >= 'a' && text.charAt(to) <= 'z') {
+                    to++;
+                }
+                if (to - from > 1) {
+                    String head = text.substring(0, from);
+                    String word = text.substring(from, to);
+                    String tail = text.substring(to);
+                    fault(head + word.substring(1) + tail, 1, from);
+                    fault(head + word.substring(0, word.length() - 1) + tail, 1, from);
+                    fault(head + word + "s" + tail, 1, from);
+                    for (int i = 0; i < word.length(); i++) {
+                        fault(head + word.substring(0, i) + "z" + word.substring(i + 1) + tail, 1, from);
+                    }
+                }
+                from = to + 1;
+            }
+        }
     }
 
     private static void staying() {

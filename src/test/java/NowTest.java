@@ -113,6 +113,9 @@ public final class NowTest {
         Check.granted(x, "worstMinute()", x.worstMinute(), 114);
         Check.granted(x, "flag(6)", x.flag(6), 114);
         Check.granted(x, "first()", x.first(), 0);
+        // Never two at once: the first minute of the first one.
+        ShoreGuards z = Check.beachOf("beach limit 3 heat 0 slips 0;person a reader at 0 thought 40 by 1;person b reader at 50 thought 7 by 1");
+        Check.granted(z, "worstMinute(), one at a time", z.worstMinute(), 7);
         // The least limit: UNDER for one minute alone, at once.
         ShoreGuards y = Check.beachOf("beach limit 1 heat 9 slips 0;person a reader at 0 thought 0 by 1");
         Check.granted(y, "under(0)", y.under(0), 1);

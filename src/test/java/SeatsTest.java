@@ -83,6 +83,14 @@ public final class SeatsTest {
         // No matter at all: the least place.
         ShoreGuards z = Check.beachOf("beach limit 5 heat 0 slips 0;person a reader at 10 thought 1 by 1");
         Check.granted(z, "company(0), alone", z.company(0), 0);
+        // Six people, five of whom SINK wherever they sit.
+        StringBuilder six = new StringBuilder("beach limit 5 heat 0 slips 0;person a child at 50 thought 1 by 1");
+        for (char name = 'b'; name <= 'f'; name++) {
+            six.append(";person ").append(name).append(" reader at 10 thought 1 by 1");
+        }
+        ShoreGuards v = Check.beachOf(six.toString());
+        Check.granted(v, "company(5) of six", v.company(5), 45);
+        Check.granted(v, "company(0) of six", v.company(0), 5);
         // The last place is one.
         ShoreGuards w = Check.beachOf("beach limit 5 heat 0 slips 0;person a child at 99 thought 1 by 1;person b reader at 0 thought 1 by 1");
         Check.granted(w, "company(1)", w.company(1), 94);

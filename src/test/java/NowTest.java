@@ -116,6 +116,9 @@ public final class NowTest {
         // Never two at once: the first minute of the first one.
         ShoreGuards z = Check.beachOf("beach limit 3 heat 0 slips 0;person a reader at 0 thought 40 by 1;person b reader at 50 thought 7 by 1");
         Check.granted(z, "worstMinute(), one at a time", z.worstMinute(), 7);
+        // As many at 0 as ever behind it: the first minute is 0.
+        ShoreGuards w = Check.beachOf("beach limit 9 heat 0 slips 0;person a reader at 0 thought 0 by 1;person b reader at 50 thought 20 by 1");
+        Check.granted(w, "worstMinute(), at once", w.worstMinute(), 0);
         // The least limit: UNDER for one minute alone, at once.
         ShoreGuards y = Check.beachOf("beach limit 1 heat 9 slips 0;person a reader at 0 thought 0 by 1");
         Check.granted(y, "under(0)", y.under(0), 1);

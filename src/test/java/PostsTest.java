@@ -110,6 +110,10 @@ public final class PostsTest {
         x.seat(1, 90);
         Check.granted(x, "bestPlace(9)", x.bestPlace(9), 29);
         Check.granted(x, "bestPlace(5) at the end", x.bestPlace(5), 94);
+        ShoreGuards z = Check.beachOf("beach limit 10 heat 0 slips 0;person a reader at 3 thought 1 by 1");
+        Check.granted(z, "bestPlace(1), the first place", z.bestPlace(1), 0);
+        Check.granted(z, "bestPlace(7), as the limit is from the first place", z.bestPlace(7), 0);
+        Check.granted(z, "bestPlace(8), one too far from the first place", z.bestPlace(8), 1);
         ShoreGuards y = Check.beachOf("beach limit 10 heat 0 slips 0;person a reader at 99 thought 1 by 1");
         Check.granted(y, "bestPlace(10), the last place", y.bestPlace(10), 99);
     }

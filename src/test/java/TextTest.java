@@ -310,6 +310,11 @@ public final class TextTest {
         fault(HEAD + ";person abcdefghi reader at 5 thought 5 by 5", 1, HEAD.length() + 8);
         fault(HEAD + ";person abcdefghabcdefgh reader at 5 thought 5 by 5", 1, HEAD.length() + 8);
         fault(ONE + ";waved abcdefghi", 1, ONE.length() + 7);
+        // Where a ; must stand nothing else parts LINES.
+        for (String part : new String[] {"abcdefghi", "1000", ",", "5", "x"}) {
+            fault(ONE + " " + part, 1, ONE.length() + 1);
+            fault(ONE + " " + part + " person b child at 6 thought 5 by 5", 1, ONE.length() + 1);
+        }
         fault("beachbeach limit 5", 1, 0);
         // Two NAMES alike in eight letters but one are two.
         ShoreGuards x = new ShoreGuards();
